@@ -357,7 +357,31 @@ public final class PromiseTest {
         due(e, x.told(6), bits);
     }
 
+    private static void p10again() {
+        SevenUnwashed x = with("", PERSON, 0, 0);
+        due("a LAND that breaks off", land(x, "pocket 3;stink 4;cold 7;open 5 !p=0&!p=1;x"), -51);
+        due("a LAND in its place", land(x, "open 1 p=0"), 0);
+        due("has its own clauses alone", x.of(0, 5), 1);
+        due("COLD without", x.told(3), 5);
+        due("POCKET without", x.told(4), 10);
+        due("STINK without", x.told(5), 1);
+        x = with("open 1 d=0;open 2 d=1;open 3 d=2;open 4 d>8;open 5 d<1;cold 0;stink 0", PERSON, 0, 0);
+        int[] welcome = {6, 2, 3, 0, 0, 0, 0, 0, 0, 4};
+        for (int day = 0; day < 25; day++) {
+            due("WELCOME on DAY " + day, x.of(0, 5), welcome[day % 10]);
+            x.pass(1);
+        }
+        x = with("open 1 s=0;open 2 s<1;open 4 s=1;open 8 s>0", PERSON, 0, 1);
+        int[] smell = {0, 9, 10, 19, 20};
+        int[] doors = {3, 3, 12 - 1, 12 - 1, 8 - 2};
+        for (int i = 0; i < 5; i++) {
+            x.soldier(1, smell[i]);
+            due("WELCOME at SMELL " + smell[i], x.of(0, 5), 1 + doors[i]);
+        }
+    }
+
     private static void p10holds() {
+        p10again();
         holds("p<2", 3);
         holds("p=2", 4);
         holds("p>2", 56);
@@ -554,6 +578,10 @@ public final class PromiseTest {
         due("GOT of 1 on 3", x.on(3, 21), 40);
         due("nothing is changed", x.told(0) + x.told(2) + x.of(1, 3), 0);
         due("HEALTH is as before", x.told(1), 50);
+        SevenUnwashed y = with("cold 0", PERSON, 0, 0, PERSON, 0, 0, PERSON, 0, 0, PERSON, 0, 0, PERSON, 0, 0, TOLD, 0, 0);
+        y.row(5, 1, 7);
+        y.row(5, 3, 9);
+        due("the ROW of the last one", y.on(4, 0), 66);
         x.soldier(0, 0);
         due("gone: no DAYS", x.on(60, 10), 20);
         due("gone: SMELL", x.on(60, 1), 0);
@@ -602,6 +630,7 @@ public final class PromiseTest {
         SevenUnwashed x = new SevenUnwashed();
         due("nobody", x.aim(), NEVER);
         x = with("pocket 4", PERSON, 0, 0, DEVOUT, 0, 0, DEVOUT, 0, 0, HIRED, 0, 0);
+        due("without a ROUND", x.aim(), 1);
         x.round(0);
         due("the first of two DEVOUT ones", x.aim(), 1);
         x.kill(1, true);
@@ -764,6 +793,14 @@ public final class PromiseTest {
         x.see(43, 2);
         due("none", x.was(0, 0), 0);
         due("none, the least", x.was(0, 1), NEVER);
+        x.see(-1, 0);
+        for (int i = 0; i < 5; i++) {
+            x.see(47, 1);
+        }
+        due("five SEEN", x.was(0, 0), 10);
+        x.see(-1, 0);
+        x.see(49, 0);
+        due("otherwise already now", x.was(0, 0), 0);
         x.see(-1, 0);
         x.see(50, 1);
         due("40 is the most", x.was(0, 0), 1);
@@ -994,8 +1031,10 @@ public final class PromiseTest {
         x.see(11, 1);
         x.winter(3, 0);
         x.winter(2, 0);
-        x.book(0, 37);
+        x.book(0, 30 - 1 + 14 - 1);
+        x.book(1, 0);
         int[] before = state(x);
+        due("row 1 of the BOOK is otherwise", x.looked(), 1);
         due("image()", x.image(), 2);
         x.person(FALSE, 1, 1);
         x.row(0, 2, 1);
@@ -1031,7 +1070,31 @@ public final class PromiseTest {
         for (int i = 0; i < before.length; i++) {
             due("as THE IMAGE again, " + i, then[i], before[i]);
         }
-        due("THE BOOK's row", x.looked(), x.of(0, 2) == 37 ? NEVER : 0);
+        for (int i = 0; i < 2; i++) {
+            x.see(600, 9);
+            x.book(1, 999);
+            x.winter(0, 0);
+            x.round(0);
+            x.see(-1, 0);
+            x.book(-1, 0);
+            x.winter(-1, 0);
+            x.round(-1);
+        }
+        x.undo();
+        then = state(x);
+        for (int i = 0; i < before.length; i++) {
+            due("as THE IMAGE where others were told, " + i, then[i], before[i]);
+        }
+        x = with("", PERSON, 0, 0);
+        for (int i = 0; i < 10; i++) {
+            x.see(50, 0);
+            x.winter(0, 0);
+            x.book(0, 0);
+            x.round(0);
+        }
+        x.image();
+        due("a full IMAGE", x.undo(), 1);
+        due("all that is told", x.count(2) * 1000 + x.count(3) * 100 + x.count(4) * 10 + x.count(5), 6608);
         x = new SevenUnwashed();
         x.image();
         land(x, "cold 9");
@@ -1179,12 +1242,20 @@ public final class PromiseTest {
         x.item(3, 59, 7);
         due("tape again", x.tape(3, 3, 60), 1);
         due("all 0", x.read(3, 59), 0);
+        x.item(3, 0, 7);
+        x.item(4, 0, 1);
+        x.tape(3, 3, 60);
+        due("all 0, the first too", x.read(3, 0), 0);
+        due("another TAPE's first", x.read(4, 0), 1);
         due("a row of none", x.tape(3, 2, 0), 1);
         due("no place in it", x.item(3, 0, 0), PLACE);
         due("tape(3, -1, 99)", x.tape(3, -1, 99), 1);
         due("tape(4, -1, -99)", x.tape(4, -1, -99), 1);
         all("nothing there", NOTHING, x.item(3, 0, 0), x.item(4, 0, 0));
         due("tape(3, -1, 0) again", x.tape(3, -1, 0), 1);
+        all("nothing to read", NO, x.read(3, 0), x.read(4, 0));
+        x.person(PERSON, 0, 5);
+        due("nothing to judge", x.judge(4, 0), 100);
     }
 
     private static void p38() {
