@@ -1,48 +1,5 @@
 /** For each promise of the document what it asks, reckoned by hand. */
-public final class PromiseTest {
-    private static final int NONE = -1, BAD = -2, STATE = -3, FULL = -4, NEVER = -5;
-    private static final int NOTHING = -11, CAST = -12, PLACE = -13, SIZE = -14;
-    private static final long NO = Long.MIN_VALUE;
-    private static final int MIN = Integer.MIN_VALUE, MAX = Integer.MAX_VALUE;
-    private static final int PERSON = 0, DEVOUT = 1, FEARFUL = 2, GREEDY = 3, FALSE = 4, HIRED = 5, TOLD = 6;
-
-    private static int passed, failed;
-    private static int promise;
-
-    private static void due(String call, long got, long want) {
-        if (got == want) {
-            passed++;
-        } else {
-            failed++;
-            System.out.println("promise " + promise + ": " + call + " answered " + got + ", due is " + want);
-        }
-    }
-
-    /** All of these are due to answer the same. */
-    private static void all(String call, long want, long... got) {
-        for (int i = 0; i < got.length; i++) {
-            due(call + " #" + i, got[i], want);
-        }
-    }
-
-    private static int land(SevenUnwashed x, String text) {
-        for (int i = 0; i < text.length(); i++) {
-            x.feed(text.charAt(i));
-        }
-        return x.land();
-    }
-
-    private static SevenUnwashed with(String land, int... kindsVsThanks) {
-        SevenUnwashed x = new SevenUnwashed();
-        for (int i = 0; i < kindsVsThanks.length; i += 3) {
-            x.person(kindsVsThanks[i], kindsVsThanks[i + 1], kindsVsThanks[i + 2]);
-        }
-        if (!land.isEmpty() && land(x, land) != 0) {
-            throw new IllegalStateException("no land: " + land);
-        }
-        return x;
-    }
-
+public final class PromiseTest extends Due {
     private static void traced(String call, SevenUnwashed x, int... bodies) {
         due(call + " count(7)", x.count(7), bodies.length);
         for (int i = 0; i < bodies.length; i++) {
@@ -1332,57 +1289,54 @@ public final class PromiseTest {
     }
 
     private static void first() {
-        promise = 1; p01();
-        promise = 2; p02();
-        promise = 3; p03();
-        promise = 4; p04();
-        promise = 5; p05();
-        promise = 6; p06();
-        promise = 7; p07();
-        promise = 8; p08();
-        promise = 9; p09();
-        promise = 10; p10();
-        promise = 11; p11();
-        promise = 12; p12();
-        promise = 13; p13();
-        promise = 14; p14();
-        promise = 15; p15();
-        promise = 16; p16();
-        promise = 17; p17();
-        promise = 18; p18();
-        promise = 19; p19();
-        promise = 20; p20();
+        at("promise 1"); p01();
+        at("promise 2"); p02();
+        at("promise 3"); p03();
+        at("promise 4"); p04();
+        at("promise 5"); p05();
+        at("promise 6"); p06();
+        at("promise 7"); p07();
+        at("promise 8"); p08();
+        at("promise 9"); p09();
+        at("promise 10"); p10();
+        at("promise 11"); p11();
+        at("promise 12"); p12();
+        at("promise 13"); p13();
+        at("promise 14"); p14();
+        at("promise 15"); p15();
+        at("promise 16"); p16();
+        at("promise 17"); p17();
+        at("promise 18"); p18();
+        at("promise 19"); p19();
+        at("promise 20"); p20();
     }
 
     private static void second() {
-        promise = 21; p21();
-        promise = 22; p22();
-        promise = 23; p23();
-        promise = 24; p24();
-        promise = 25; p25();
-        promise = 26; p26();
-        promise = 27; p27();
-        promise = 28; p28();
-        promise = 29; p29();
-        promise = 30; p30();
-        promise = 31; p31();
-        promise = 32; p32();
-        promise = 33; p33();
-        promise = 34; p34();
-        promise = 35; p35();
-        promise = 36; p36();
-        promise = 37; p37();
-        promise = 38; p38();
-        promise = 39; p39();
-        promise = 40; p40();
+        at("promise 21"); p21();
+        at("promise 22"); p22();
+        at("promise 23"); p23();
+        at("promise 24"); p24();
+        at("promise 25"); p25();
+        at("promise 26"); p26();
+        at("promise 27"); p27();
+        at("promise 28"); p28();
+        at("promise 29"); p29();
+        at("promise 30"); p30();
+        at("promise 31"); p31();
+        at("promise 32"); p32();
+        at("promise 33"); p33();
+        at("promise 34"); p34();
+        at("promise 35"); p35();
+        at("promise 36"); p36();
+        at("promise 37"); p37();
+        at("promise 38"); p38();
+        at("promise 39"); p39();
+        at("promise 40"); p40();
     }
 
     public static void main(String[] args) {
         first();
         second();
-        System.out.println(passed + " answers as due, " + failed + " not");
-        if (failed != 0) {
-            System.exit(1);
-        }
+        end();
     }
 }
