@@ -166,7 +166,13 @@ public final class AnswersTest extends Sentences {
         due("no LAND comes", x.count(1), 2);
         due("nothing", x.land(), -10);
         due("the next is as if that had not been", land(x, "cold 8"), 2);
-        for (int i = 3; i < 6; i++) {
+        due("a FAULT behind whole CLAUSES", land(x, "cold 9;pocket 9;stink 9;open 50 !p=0&!p=9;x"), -52);
+        due("the LAND that held holds", x.told(3), 8);
+        due("the next", land(x, "open 1 p=1"), 3);
+        due("has no CLAUSES of that", x.told(3) * 10000 + x.told(4) * 100 + x.told(5), 51001);
+        due("nor doors", x.of(2, 5) - x.of(2, 2) + x.told(2) / 10, 0);
+        due("its own alone", x.of(1, 5) - x.of(1, 2) + x.told(2) / 10, 1);
+        for (int i = 4; i < 6; i++) {
             due("another", land(x, "cold 1"), i);
         }
         feed(x, "x");
@@ -530,6 +536,8 @@ public final class AnswersTest extends Sentences {
             SevenUnwashed x = some();
             due("-1", x.tape(1, -1, n), 1);
             due("nothing is there", x.item(1, 0, 0), NOTHING);
+            due("nothing to read", x.read(1, 0), NO);
+            due("nothing to judge", x.judge(1, 0), 100);
             due("another is", x.read(2, 0), 33);
         }
         SevenUnwashed x = some();
@@ -542,6 +550,7 @@ public final class AnswersTest extends Sentences {
                 due("the first", x.read(1, 0), n > 0 ? 0 : NO);
                 due("the last", x.read(1, n - 1), n > 0 ? 0 : NO);
                 due("behind it", x.read(1, n), NO);
+                due("the first of another", x.read(2, 0), 33);
             }
             x = some();
         }

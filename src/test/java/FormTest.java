@@ -171,12 +171,54 @@ public final class FormTest {
         must(least < 512, "bytes that calls made: " + least);
     }
 
+    private static final long[] HOSTILE = {Long.MIN_VALUE, Integer.MIN_VALUE, Integer.MIN_VALUE + 10, -100, -2, -1, 0, 1, 2, 5, 10, 20, 60, 128,
+        999, 10000, Integer.MAX_VALUE - 5, Integer.MAX_VALUE, Long.MAX_VALUE};
+
+    /** No call throws: every call with all that is hostile, one behind another, to one object. */
+    private static void hostile(SevenUnwashed x, String start) throws Exception {
+        for (Method method : SevenUnwashed.class.getDeclaredMethods()) {
+            if (!Modifier.isPublic(method.getModifiers())) {
+                continue;
+            }
+            Class<?>[] types = method.getParameterTypes();
+            Object[] arguments = new Object[types.length];
+            long many = 1;
+            for (int i = 0; i < types.length; i++) {
+                many *= HOSTILE.length;
+            }
+            for (long each = 0; each < many; each += types.length > 3 ? 7 : 1) {
+                long rest = each;
+                for (int i = 0; i < types.length; i++) {
+                    long v = HOSTILE[(int) (rest % HOSTILE.length)];
+                    rest /= HOSTILE.length;
+                    arguments[i] = types[i] == boolean.class ? (Object) (v > 0) : types[i] == int.class ? (Object) (int) v : (Object) v;
+                }
+                try {
+                    method.invoke(x, arguments);
+                } catch (java.lang.reflect.InvocationTargetException e) {
+                    must(false, start + ": " + method.getName() + Arrays.toString(arguments) + " threw " + e.getCause());
+                    return;
+                }
+            }
+        }
+    }
+
+    private static void neverThrows() throws Exception {
+        hostile(new SevenUnwashed(), "a new object");
+        hostile(Sentences.some(), "one that holds something");
+        hostile(Sentences.full(), "one that holds all it can");
+        SevenUnwashed x = Sentences.full();
+        x.soldier(0, 0);
+        hostile(x, "one that is gone");
+    }
+
     public static void main(String[] args) throws Exception {
         String source = Files.readString(Path.of(args[0]));
         face(Path.of(args[1]));
         words(source);
         lengths(source);
         room();
+        neverThrows();
         System.out.println(wrong == 0 ? "the form is as due" : wrong + " things of the form are not as due");
         if (wrong != 0) {
             System.exit(1);

@@ -878,6 +878,10 @@ public final class PromiseTest extends Due {
         x.winter(0, 0);
         due("a DAY", x.gone(0), 51);
         due("a DAY's SMELL", x.gone(1), 7);
+        x.winter(0, 0);
+        due("two DAYS", x.gone(0), 51);
+        x.winter(-1, 0);
+        x.winter(0, 0);
         x.winter(1, 0);
         x.winter(0, 0);
         due("then one is DEAD", x.gone(0), 46);

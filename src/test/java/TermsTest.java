@@ -155,6 +155,14 @@ public final class TermsTest extends Sentences {
         fault("open 1 (p=1;cold 1", 11);
         fault("open 1 p=1)", 10);
         fault("open 1 (p=1))", 12);
+        String[] es = {"p=1", "!p=1", "!!p=1", "p=1|p=2", "p=1|p=2|p=5", "p>0&p<4", "p>0&p<4&v=1", "p=0|p>0&p<3", "p>0&p<3|p=0",
+            "(p=0|p>0)&p<3", "p<3&(p=0|p>1)", "!p=0&p<3", "p<3&!p=0", "!(p=0|p=5)", "!(!(p=1|p=2)|p=1)", "p=9", "!p=9", "!!!!p=4", "!!!p=4",
+            "((((p=3))))", "p=1&p=2|p=3&p<4|v=1&p>4", "p<1|(p>4|(p=2|p=3)&(p=3|p=4))&!p=5", "(p<2|p>3)&(p<1|p=4|p=1)&!(p=0)"};
+        int[] bits = {2, 61, 2, 6, 38, 14, 10, 7, 7, 7, 5, 6, 6, 30, 4, 0, 63, 16, 47, 8, 40, 9, 18};
+        for (int i = 0; i < es.length; i++) {
+            due("for whom " + es[i], with("shut 1 p<9;open 1 " + es[i] + ";cold 1",
+                PERSON, 0, 0, PERSON, 1, 0, PERSON, 0, 0, PERSON, 1, 0, PERSON, 0, 0, PERSON, 1, 0).told(6), bits[i]);
+        }
         terms("a letter, < or = or >, a number (1 or 2 digits)");
         for (char letter : "pkvtsd".toCharArray()) {
             for (char sign : "<=>".toCharArray()) {
@@ -390,7 +398,9 @@ public final class TermsTest extends Sentences {
             due("DAY " + day, x.of(0, 7), 1 + more[day % 4]);
             x.pass(1);
         }
-        due("without a ROW", prays(TOLD, 7, 19), 1);
+        for (int i = 0; i < 10; i++) {
+            due("without a ROW at " + thanks[i], prays(TOLD, 7, thanks[i]), tenth[i]);
+        }
     }
 
     private static void gold() {
@@ -873,6 +883,21 @@ public final class TermsTest extends Sentences {
     }
 
     private static void byHand() {
+        terms("A WINTER told by hand: what goes (0 a DAY, 1 one is DEAD,");
+        SevenUnwashed w = with("cold 1;stink 30", PERSON, 0, 50, PERSON, 0, 50);
+        w.winter(0, 0);
+        w.winter(0, 1);
+        due("two DAYS, in which nobody is DEAD: 10 and 8 more", w.gone(0) * 100 + w.gone(1), 6860);
+        w.winter(2, 0);
+        w.winter(3, 1);
+        w.winter(0, 0);
+        due("10 less, no SMELL, a DAY more", w.gone(0) * 100 + w.gone(1), 6630);
+        w.winter(1, 1);
+        w.winter(0, 0);
+        due("one is DEAD: 4 more", w.gone(0) * 100 + w.gone(1), 7060);
+        w.winter(1, 0);
+        w.winter(0, 0);
+        due("the other, too: 1 less", w.gone(0) * 100 + w.gone(1), 6990);
         terms("2 HEALTH is 10 less (0 at least), 3 SMELL is 0; 10 rows at most; 1, 2, 3 go also if he is gone");
         SevenUnwashed x = with("cold 1;stink 30", PERSON, 0, 50);
         int[] healths = {0, 9, 10, 11, 999};
@@ -952,6 +977,21 @@ public final class TermsTest extends Sentences {
         due("opens", x.act(1, 0, 7), 8);
         due("prays", x.act(1, 1, 7), 4);
         due("tells", x.act(1, 2, 7), 8);
+        terms("the body of its KIND, or, if that has none, of the next KIND above that has one");
+        x = with("", PERSON, 3, 0, DEVOUT, 4, 0, FEARFUL, 5, 0, GREEDY, 6, 0, FALSE, 7, 0, HIRED, 8, 0);
+        int[][] answers = {{10, 11, 32, 13, -14, 35}, {7, 1, 27, 7, -20, 27}, {14, 2, 54, 12, -40, 24}};
+        int[][] ran = {{1, 1, 2, 1, 2, 2}, {2, 3, 3, 2, 5, 3}, {3, 4, 4, 6, 6, 5}};
+        for (int act = 0; act < 3; act++) {
+            for (int kind = 0; kind < 6; kind++) {
+                due("act " + act + " of KIND " + kind, x.act(kind, act, 10), answers[act][kind]);
+                due("how many bodies", x.count(7), ran[act][kind]);
+            }
+        }
+        x = with("", PERSON, 0, 0, TOLD, 9, 0);
+        due("TOLD opens", x.act(1, 0, 10), (10 + 1) ^ 9);
+        due("TOLD opens to 14", x.act(1, 0, 14), (14 + 1) ^ 9);
+        due("TOLD prays", x.act(1, 1, 10), -4);
+        due("TOLD tells", x.act(1, 2, 10), -3);
         terms("super.opens(..): so from the KIND above the body's on");
         x = with("", HIRED, 1, 0, FALSE, 1, 0);
         due("HIRED opens by FEARFUL's body", x.act(0, 0, 7), 21);
@@ -996,7 +1036,26 @@ public final class TermsTest extends Sentences {
             y.image();
             same(change + ": all is as it was", whole(x), whole(y));
         }
-        SevenUnwashed x = some();
+        SevenUnwashed x = full();
+        SevenUnwashed y = full();
+        for (int i = 0; i < 9; i++) {
+            x.see(-1, 0);
+            x.winter(-1, 0);
+            x.book(-1, 0);
+            x.round(-1);
+            for (int k = 0; k < i; k++) {
+                x.see(900 + i, i);
+                x.winter(3 - i % 3, 1);
+                x.book(1, 900 + i);
+                x.round(i % 6);
+            }
+            x.pass(5);
+            x.row(2, i % 4, i);
+            due("all of it is told anew", x.undo(), 6);
+        }
+        x.row(2, 1, 6);
+        same("all that is told by hand is as it was", whole(x), whole(y));
+        x = some();
         x.image();
         x.land();
         land(x, "cold 99;pocket 98;stink 97");
