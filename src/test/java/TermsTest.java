@@ -157,8 +157,10 @@ public final class TermsTest extends Sentences {
         fault("open 1 (p=1))", 12);
         String[] es = {"p=1", "!p=1", "!!p=1", "p=1|p=2", "p=1|p=2|p=5", "p>0&p<4", "p>0&p<4&v=1", "p=0|p>0&p<3", "p>0&p<3|p=0",
             "(p=0|p>0)&p<3", "p<3&(p=0|p>1)", "!p=0&p<3", "p<3&!p=0", "!(p=0|p=5)", "!(!(p=1|p=2)|p=1)", "p=9", "!p=9", "!!!!p=4", "!!!p=4",
-            "((((p=3))))", "p=1&p=2|p=3&p<4|v=1&p>4", "p<1|(p>4|(p=2|p=3)&(p=3|p=4))&!p=5", "(p<2|p>3)&(p<1|p=4|p=1)&!(p=0)"};
-        int[] bits = {2, 61, 2, 6, 38, 14, 10, 7, 7, 7, 5, 6, 6, 30, 4, 0, 63, 16, 47, 8, 40, 9, 18};
+            "((((p=3))))", "p=1&p=2|p=3&p<4|v=1&p>4", "p<1|(p>4|(p=2|p=3)&(p=3|p=4))&!p=5", "(p<2|p>3)&(p<1|p=4|p=1)&!(p=0)",
+            "p=9|p<9&(p=9|p<9&(p=9|p<9&(p=9|p<9&(p=9|p<9&p=1))))", "p=9|p<9&!!!!p=3|p=5",
+            "!!!!p<3&!!!!p>0&!!!!v=1&!!!!p<9&!!!!t=0&!!!!s=0&!!!!d=0&!!!!p=1"};
+        int[] bits = {2, 61, 2, 6, 38, 14, 10, 7, 7, 7, 5, 6, 6, 30, 4, 0, 63, 16, 47, 8, 40, 9, 18, 2, 40, 2};
         for (int i = 0; i < es.length; i++) {
             due("for whom " + es[i], with("shut 1 p<9;open 1 " + es[i] + ";cold 1",
                 PERSON, 0, 0, PERSON, 1, 0, PERSON, 0, 0, PERSON, 1, 0, PERSON, 0, 0, PERSON, 1, 0).told(6), bits[i]);
@@ -209,6 +211,14 @@ public final class TermsTest extends Sentences {
         }
         stands(whole.substring(0, 18));
         fault("cold 1;", 7);
+        for (char sign : "!(p19&|;) ".toCharArray()) {
+            for (int i = 0; i < whole.length(); i++) {
+                SevenUnwashed x = new SevenUnwashed();
+                feed(x, "x" + ("" + sign).repeat(99));
+                due("a long one", x.land(), -10);
+                due("behind a long one, " + whole.substring(0, i), land(x, whole.substring(0, i)), i == 18 ? 0 : -10 - i);
+            }
+        }
     }
 
     private static void lands() {
